@@ -869,8 +869,10 @@ public final class ParishUnion {
         for (int row = 0; row < ROWS && well; row++) {
             union.house.doChoices(set);
             union.house.tellRow(row, start);
-            union.goBy(union.house.rowSize[row]);
-            well = sumOfTry(start, 0) == 0 && sumOfTry(start, 1) == 0;
+            for (int i = 0; i < union.house.rowSize[row] && well; i++) {
+                union.goBy(1);
+                well = union.past.sum(start + i, SUM_REFUSED) == 0 && union.past.sum(start + i, SUM_DEAD) == 0;
+            }
             bringBack(start);
         }
         return well;

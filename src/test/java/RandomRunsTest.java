@@ -27,8 +27,10 @@ public final class RandomRunsTest {
         random = new Random(seed);
         wild = seed % 8 == 0;
         for (int i = 0; i < liking.length; i++) {
-            liking[i] = 1 + random.nextInt(6);
+            liking[i] = 1 + random.nextInt(1 + random.nextInt(12));
         }
+        like("feed", wild ? 2 : 0);
+        like("text", 3);
         like("week", 4);
         like("person", 6);
         like("image", 1);

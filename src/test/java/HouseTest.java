@@ -462,6 +462,26 @@ public final class HouseTest {
         Due.due("no cost, no share", x.share(3, 1, -1), 0);
         Due.act(x, "share e", 0);
         Due.due("by another law", x.share(1, 0, -1), 3);
+        ParishUnion z = new ParishUnion();
+        z.person(0, -1000, 3, -1, 0);
+        z.person(1, -1000, 4, -1, 0);
+        z.person(0, -1000, 0, -1, 9);
+        z.house(4, 1);
+        Due.act(z, "fear 0;diet 1;give 1 s=1;share h", 0);
+        z.week(1);
+        // He ate 1, she was given 1; nobody helped the third one.
+        Due.due("one ounce is help", z.share(3, 0, -1), 1);
+        Due.due("one penny is help", z.share(4, 0, -1), 1);
+        Due.due("owed for one ounce", z.owed(3, 0, 0, -1), 1);
+        z.price(9);
+        Due.due("owed for one ounce", z.owed(3, 0, 0, -1), 9);
+        z.hire(1, 0, 50, 0, false, true);
+        Due.due("parish 0", z.share(0, 0, -1), 5);
+        z.parish(3, 9);
+        z.parish(0, 4);
+        Due.due("sink", z.sink(0, 0, -1), 0);
+        z.parish(4, 4);
+        Due.due("sink by no entry", z.sink(0, 0, 0), 4);
         ParishUnion y = helped("share h");
         y.proof(0, true);
         Due.due("price 0: 5 by 2", y.price(0), 1);

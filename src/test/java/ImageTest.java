@@ -10,6 +10,8 @@ public final class ImageTest {
         check();
         image();
         imageOfAll();
+        imageOfWhatWasOverwritten();
+        personsBehindUndo();
         counts();
         Due.end();
     }
@@ -169,6 +171,91 @@ public final class ImageTest {
         seen.add((long) x.plan(0));
         seen.add((long) x.plan(1));
         return seen.stream().mapToLong(l -> l).toArray();
+    }
+
+    private static void imageOfWhatWasOverwritten() {
+        ParishUnion x = new ParishUnion();
+        x.person(0, -100, 1, -1, 2);
+        x.person(0, -1000, 2, -1, 0);
+        Due.act(x, "fear 0", 0);
+        x.house(4, 100);
+        x.week(1);
+        set(x, 7, "give 7 s=0");
+        x.bind(0, 1);
+        int order = x.order(0, 5);
+        int may = x.hire(1, 3, 60, 0, false, false);
+        x.image();
+        x.run(0);
+        x.carry(x.order(0, 4));
+        x.text(0);
+        x.proof(may, false);
+        set(x, 3, "diet 3");
+        x.week(2);
+        Due.due("undo", x.undo(), 1);
+        Due.due("the order", order, STATE);
+        Due.due("rents", x.parish(4, 0), 7);
+        Due.due("beds", x.house(2, 0), 7);
+        Due.due("price", x.price(0), 7);
+        Due.due("frost", x.frost(9, 0), 7);
+        Due.due("room", x.master(1, 9), 7);
+        Due.due("told", x.told(1, 0), 7);
+        Due.due("bound", x.about(0, 9), 1);
+        Due.due("may", x.right(may, 5), 0);
+        Due.due("in the house from 2", x.about(1, 10), 2);
+        Due.due("in ward 0", x.about(1, 8), 0);
+        Due.due("the store", x.count(12), 80);
+        Due.due("the tape", x.text(1), 1);
+        Due.due("the tape as it was", x.offer(1, 0), 7);
+        Due.feed(x, "give 7 f>6;fear 99");
+        Due.due("the row as it was", x.tried(2, 2), 0);
+        x.run(0);
+        Due.feed(x, "give 7 f>6;fear 99");
+        Due.due("the row as it was, 7 times for who ran", x.tried(2, 2), 49);
+    }
+
+    /** Most of what has one place alone is n, or bears n. */
+    private static void set(ParishUnion x, int n, String text) {
+        x.parish(4, n);
+        x.house(2, n);
+        x.price(n);
+        x.frost(9, n);
+        x.master(1, n);
+        x.told(1, n);
+        x.frosts(2, 1111111111L * n / (n == 7 ? 1000 : 1), n == 7 ? 7 : 10);
+        Due.feed(x, text);
+    }
+
+    /** Who comes in the place of one that was undone is new. */
+    private static void personsBehindUndo() {
+        ParishUnion x = new ParishUnion();
+        x.image();
+        x.person(0, -1000, 1, -1, 0);
+        x.frost(0, 9);
+        Due.act(x, "fear 0", 0);
+        x.house(0, 1);
+        x.house(4, 5);
+        x.told(0, 4);
+        x.week(3);
+        Due.due("ill", x.about(0, 7) > 0 ? 1 : x.about(0, 6) > 0 ? 1 : 0, 1);
+        x.undo();
+        Due.due("nobody", x.about(0, 0), NONE);
+        x.person(1, -500, 2, -1, 3);
+        int[] due = {1, -500, 2, -1, 3, 2, 0, 0, -1, -1, -1};
+        for (int what = 0; what < 11; what++) {
+            Due.due("about " + what, x.about(0, what), due[what]);
+        }
+        Due.due("told", x.told(0, 1), 0);
+        x.hire(0, 3, 60, 0, false, false);
+        x.proof(0, true);
+        x.undo();
+        x.person(1, -500, 2, -1, 3);
+        x.hire(0, 4, 60, 0, false, false);
+        Due.due("not proved yet", x.right(0, 5), 0);
+        x.carry(x.order(0, 3));
+        x.undo();
+        x.person(1, -500, 2, -1, 3);
+        x.order(0, 4);
+        Due.due("not carried yet", x.carry(0), 4);
     }
 
     private static void counts() {

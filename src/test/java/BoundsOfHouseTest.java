@@ -826,7 +826,25 @@ public final class BoundsOfHouseTest {
         Due.due("no week 2 yet", x.was(0, 2, 0), NONE);
         Due.due("no week -1", x.was(0, -1, 0), NONE);
         Due.due("no person 1", x.was(1, 1, 0), NONE);
-        // Sixteen refused, one by one.
+        // What was in one WEEK is not in the next one.
+        ParishUnion z = new ParishUnion();
+        weak(z, 1);
+        z.house(4, 10);
+        Due.act(z, "fear 1;give 5 f>8", 0);
+        z.frost(0, 9);
+        z.week(2);
+        int[] first = {AT_HOUSE, 10, 5, 1};
+        int[] second = {AT_HOUSE, 0, 0, 0};
+        for (int what = 0; what < 4; what++) {
+            Due.due("was in week 0, " + what, z.was(0, 0, what), first[what]);
+            Due.due("was in week 1, " + what, z.was(0, 1, what), second[what]);
+        }
+        int[] sums = {10, 5, 0, 0, 0, 1, 15};
+        for (int what = 0; what < 7; what++) {
+            Due.due("gone in week 0, " + what, z.gone(0, what), sums[what]);
+            Due.due("gone in week 1, " + what, z.gone(1, what), 0);
+        }
+        // Sixteen are given, and none asks.
         ParishUnion y = new ParishUnion();
         for (int i = 0; i < 16; i++) {
             weak(y, 1);

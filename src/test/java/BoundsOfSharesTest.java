@@ -15,6 +15,8 @@ public final class BoundsOfSharesTest {
         byHelped();
         oneOunceIsHelp();
         helpedInTheHouseAndAtHome();
+        sixteenHelped();
+        whoCameLater();
         asOfTheWeek();
         lawOfTheWeek();
         theWholeIsShared();
@@ -215,6 +217,54 @@ public final class BoundsOfSharesTest {
         Due.due("he was given", x.was(0, 0, 2), 3);
         Due.due("she was given", x.was(1, 0, 2), 6);
         shares("18 by two", x, 0, 9, 0, 9, 0, 0);
+    }
+
+    /** All places of PERSONS are taken, and the first one is helped in the next WEEK, too. */
+    private static void sixteenHelped() {
+        ParishUnion x = new ParishUnion();
+        for (int i = 0; i < 16; i++) {
+            x.person(0, -1000, i % 6, -1, 0);
+        }
+        x.house(0, 20);
+        x.house(4, 9999);
+        x.price(2);
+        Due.act(x, "fear 0;diet 10;share h", 0);
+        Due.act(x, "give 1 o", 1);
+        x.week(2);
+        for (int week = 0; week < 2; week++) {
+            Due.due("all have eaten", x.gone(week, 0), 160);
+            Due.due("cost", x.gone(week, 6), 320);
+            int[] due = {60, 60, 60, 60, 40, 40};
+            for (int p = 0; p < 6; p++) {
+                Due.due("share of " + p, x.share(p, week, -1), due[p]);
+                Due.due("owed by " + p, x.owed(p, week, week, -1), due[p]);
+                Due.due("owed by " + p, x.owed(p, 0, 1, -1), 2 * due[p]);
+            }
+        }
+        x.parish(4, 80);
+        x.parish(5, 79);
+        for (int p = 0; p < 4; p++) {
+            x.parish(p, 120);
+        }
+        Due.due("sinks", x.sink(0, 1, -1), 5);
+    }
+
+    /** Who was not there yet in a WEEK was not helped in it. */
+    private static void whoCameLater() {
+        ParishUnion x = new ParishUnion();
+        x.person(0, -1000, 1, -1, 0);
+        x.house(4, 100);
+        x.price(2);
+        Due.act(x, "fear 0;diet 7;share h", 0);
+        x.week(1);
+        x.person(0, -1000, 2, -1, 0);
+        x.person(0, -1000, 2, -1, 0);
+        shares("one was there", x, 0, 14, 0, 0, 0, 0);
+        Due.due("owed by his", x.owed(1, 0, 0, -1), 14);
+        Due.due("not owed by theirs", x.owed(2, 0, 0, -1), 0);
+        x.week(1);
+        Due.due("three were there", x.gone(1, 0), 14);
+        Due.due("owed by theirs", x.owed(2, 0, 1, -1), 14);
     }
 
     private static void asOfTheWeek() {

@@ -1,6 +1,13 @@
+import java.util.ArrayList;
+import java.util.Arrays;
+import java.util.List;
+import java.util.function.ToIntFunction;
+
 /** Promises 43 to 47: a told week, the image, counts. */
 public final class ImageTest {
     private static final int NONE = -1, BAD = -2, STATE = -3, NOBODY = -5;
+    /** So many, asked four times, leave room for the changes in the 512 calls of an object. */
+    private static final int QUESTIONS_OF_ONE = 90;
 
     private ImageTest() {
     }
@@ -12,6 +19,12 @@ public final class ImageTest {
         imageOfAll();
         imageOfWhatWasOverwritten();
         personsBehindUndo();
+        illnessBehindUndo();
+        proofsBehindUndo();
+        askedFromBehindUndo();
+        rowsBehindUndo();
+        nightsBehindUndo();
+        actsBehindUndo();
         counts();
         Due.end();
     }
@@ -71,31 +84,39 @@ public final class ImageTest {
         Due.due("undo", x.undo(), 6);
     }
 
-    /** Every part is changed twice, ahead of the image and behind it. */
+    /** Every part is changed twice, ahead of the image and behind it; each object is asked some of all questions. */
     private static void imageOfAll() {
+        List<ToIntFunction<ParishUnion>> all = questions();
+        boolean same = true;
+        for (int from = 0; from < all.size(); from += QUESTIONS_OF_ONE) {
+            same &= imageOf(from, all.subList(from, Math.min(all.size(), from + QUESTIONS_OF_ONE)));
+        }
+        Due.due("something has changed", same ? 1 : 0, 0);
+    }
+
+    /** Whether nothing was another one behind the changes. */
+    private static boolean imageOf(int from, List<ToIntFunction<ParishUnion>> some) {
         ParishUnion x = new ParishUnion();
         change(x);
         x.image();
-        long[] before = look(x);
+        int[] before = look(x, some);
         change(x);
         x.week(5);
-        boolean same = true;
-        long[] other = look(x);
-        for (int i = 0; i < before.length; i++) {
-            same &= before[i] == other[i];
-        }
-        Due.due("something has changed", same ? 1 : 0, 0);
+        boolean same = Arrays.equals(before, look(x, some));
         x.undo();
-        long[] after = look(x);
-        for (int i = 0; i < before.length; i++) {
-            Due.due("look " + i, after[i], before[i]);
-        }
+        int[] after = look(x, some);
         change(x);
         x.undo();
-        long[] again = look(x);
+        int[] again = look(x, some);
         for (int i = 0; i < before.length; i++) {
-            Due.due("look again " + i, again[i], before[i]);
+            Due.due("look " + (from + i), after[i], before[i]);
+            Due.due("look again " + (from + i), again[i], before[i]);
         }
+        return same;
+    }
+
+    private static int[] look(ParishUnion x, List<ToIntFunction<ParishUnion>> some) {
+        return some.stream().mapToInt(question -> question.applyAsInt(x)).toArray();
     }
 
     private static void change(ParishUnion x) {
@@ -130,47 +151,53 @@ public final class ImageTest {
         Due.feed(x, "wed n;ki");
     }
 
-    private static long[] look(ParishUnion x) {
-        java.util.List<Long> seen = new java.util.ArrayList<>();
+    private static List<ToIntFunction<ParishUnion>> questions() {
+        List<ToIntFunction<ParishUnion>> all = new ArrayList<>();
         for (int i = 0; i < 14; i++) {
-            seen.add((long) x.count(i));
+            int what = i;
+            all.add(x -> x.count(what));
         }
-        for (int p = 0; p < 7; p++) {
-            for (int what = 0; what < 11; what++) {
-                seen.add((long) x.about(p, what));
+        for (int i = 0; i < 7; i++) {
+            int p = i;
+            for (int j = 0; j < 11; j++) {
+                int what = j;
+                all.add(x -> x.about(p, what));
             }
-            seen.add((long) x.maybe(p, 9, -1, 0));
-            seen.add((long) x.maybe(p, 9, -1, 1));
-            seen.add((long) x.offer(p, 0));
-        }
-        for (int r = 0; r < 7; r++) {
-            for (int what = 0; what < 6; what++) {
-                seen.add((long) x.right(r, what));
+            all.add(x -> x.maybe(p, 9, -1, 0));
+            all.add(x -> x.maybe(p, 9, -1, 1));
+            all.add(x -> x.offer(p, 0));
+            for (int j = 0; j < 6; j++) {
+                int what = j;
+                all.add(x -> x.right(p, what));
             }
         }
-        for (int a = 0; a < 6; a++) {
-            for (int b = 0; b < 6; b++) {
-                seen.add((long) x.far(a, b));
+        for (int i = 0; i < 6; i++) {
+            int a = i;
+            for (int j = 0; j < 6; j++) {
+                int b = j;
+                all.add(x -> x.far(a, b));
             }
-            seen.add((long) x.heard(a, 12));
+            all.add(x -> x.heard(a, 12));
         }
-        for (int w = 0; w < 12; w++) {
-            for (int what = 0; what < 20; what++) {
-                seen.add((long) x.force(w, what));
-                seen.add((long) x.gone(w, what));
-                seen.add((long) x.was(what, w, 0));
-                seen.add((long) x.was(what, w, 2));
+        for (int i = 0; i < 12; i++) {
+            int w = i;
+            for (int j = 0; j < 20; j++) {
+                int what = j;
+                all.add(x -> x.force(w, what));
+                all.add(x -> x.gone(w, what));
+                all.add(x -> x.was(what, w, 0));
+                all.add(x -> x.was(what, w, 2));
             }
-            seen.add((long) x.share(1, w, -1));
-            seen.add((long) x.check(w));
+            all.add(x -> x.share(1, w, -1));
+            all.add(x -> x.check(w));
         }
-        seen.add((long) x.unlike(-1));
-        seen.add((long) x.unlike(2));
-        seen.add((long) x.greatest());
-        seen.add((long) x.one(255));
-        seen.add((long) x.plan(0));
-        seen.add((long) x.plan(1));
-        return seen.stream().mapToLong(l -> l).toArray();
+        all.add(x -> x.unlike(-1));
+        all.add(x -> x.unlike(2));
+        all.add(x -> x.greatest());
+        all.add(x -> x.one(255));
+        all.add(x -> x.plan(0));
+        all.add(x -> x.plan(1));
+        return all;
     }
 
     private static void imageOfWhatWasOverwritten() {
@@ -256,6 +283,152 @@ public final class ImageTest {
         x.person(1, -500, 2, -1, 3);
         x.order(0, 4);
         Due.due("not carried yet", x.carry(0), 4);
+    }
+
+    /** Who comes in the place of one that was ill is not. */
+    private static void illnessBehindUndo() {
+        ParishUnion x = new ParishUnion();
+        x.house(0, 1);
+        x.house(4, 100);
+        Due.act(x, "fear 0", 0);
+        x.frost(0, 1);
+        x.frost(1, 1);
+        x.image();
+        x.person(0, -1000, 1, -1, 0);
+        x.week(2);
+        Due.due("ill", x.about(0, 7), 2);
+        x.undo();
+        x.person(0, -1000, 2, -1, 9);
+        Due.due("not ill", x.about(0, 7), 0);
+        Due.due("no hunger", x.about(0, 6), 0);
+        x.week(1);
+        Due.due("not ill", x.about(0, 7), 0);
+    }
+
+    private static void proofsBehindUndo() {
+        ParishUnion x = new ParishUnion();
+        x.person(0, -1000, 1, -1, 0);
+        x.hire(0, 2, 60, -10, false, false);
+        x.hire(0, 3, 60, -9, false, false);
+        x.proof(1, true);
+        x.image();
+        x.undo();
+        Due.due("proved", x.right(1, 5), 1);
+        Due.due("by bench 0", x.settle(0, 0, 0, -1), 3);
+        x.proof(0, false);
+        x.proof(1, false);
+        x.undo();
+        Due.due("entries", x.count(2), 3);
+        Due.due("may", x.right(0, 5), 0);
+        x.hire(0, 4, 60, -8, false, false);
+        Due.due("may, by one more entry", x.right(0, 5), 0);
+        Due.due("it was not, in the image", x.proof(0, true), 5);
+        Due.due("proved", x.right(0, 5), 1);
+        Due.due("it was, in the image", x.proof(1, false), STATE);
+        Due.due("proved as in the image", x.right(1, 5), 1);
+        x.proof(2, true);
+        x.undo();
+        x.rated(0, 5, 1, 0, false);
+        Due.due("another right in its place", x.right(2, 0), 2);
+        Due.due("may", x.right(2, 5), 0);
+        Due.due("not proved", x.proof(2, false), 5);
+        x.image();
+        x.undo();
+        Due.due("disproved", x.right(2, 5), 2);
+    }
+
+    private static void askedFromBehindUndo() {
+        ParishUnion x = new ParishUnion();
+        x.person(0, -100, 1, -1, 5);
+        x.house(4, 100);
+        Due.act(x, "fear 0", 0);
+        x.frost(0, 9);
+        x.week(1);
+        Due.due("in the house", x.about(0, 10), 1);
+        x.image();
+        x.master(0, 1);
+        x.bind(0, 0);
+        x.run(0);
+        x.carry(x.order(0, 4));
+        x.frost(1, 9);
+        x.week(1);
+        Due.due("in the house from another one", x.about(0, 10), 4);
+        x.undo();
+        Due.due("from the first one", x.about(0, 10), 1);
+        x.week(1);
+        Due.due("back there", x.about(0, 5), 1);
+        x.undo();
+        Due.due("in the house", x.about(0, 5), 6);
+        Due.due("in ward 0", x.about(0, 8), 0);
+        Due.due("from the first one", x.about(0, 10), 1);
+    }
+
+    private static void rowsBehindUndo() {
+        ParishUnion x = new ParishUnion();
+        x.person(0, -1000, 1, -1, 9);
+        x.frosts(0, 78, 2);
+        x.image();
+        x.frosts(0, 1, 1);
+        x.frosts(2, 111, 3);
+        x.choice(0, 1, 1);
+        x.undo();
+        Due.feed(x, "give 1 o");
+        Due.due("no row 2", x.tried(2, 2), NONE);
+        Due.due("two weeks of row 0", x.tried(0, 2), 2);
+        Due.feed(x, "give 1 f>6&f<8");
+        Due.due("7", x.tried(0, 2), 1);
+        Due.feed(x, "give 1 f>7");
+        Due.due("8", x.tried(0, 2), 1);
+        Due.due("no choice", x.count(11), 0);
+        ParishUnion y = new ParishUnion();
+        y.image();
+        y.frosts(1, 0, 1);
+        Due.due("a plan", y.plan(0), 0);
+        y.undo();
+        Due.due("no row", y.plan(0), STATE);
+    }
+
+    /** NIGHTS of earlier WEEKS, told later. */
+    private static void nightsBehindUndo() {
+        ParishUnion x = new ParishUnion();
+        x.road(0, 1, 5);
+        x.night(0, 0, 20);
+        x.night(1, 1, 25);
+        x.night(2, 0, 29);
+        x.image();
+        Due.due("two", x.greatest(), 3);
+        x.night(3, 1, 1);
+        x.night(3, 1, 2);
+        x.night(3, 1, 3);
+        x.undo();
+        Due.due("nights", x.count(10), 3);
+        Due.due("two", x.greatest(), 3);
+        Due.due("the first and the third", x.one(5), 1);
+        Due.due("the second and the third", x.one(6), 0);
+        Due.due("no nights of the fourth", x.one(11), 1);
+        x.night(0, 1, 27);
+        Due.due("two weeks later", x.one(5), 0);
+        Due.due("the second, three times", x.one(3), 1);
+        x.undo();
+        Due.due("the first and the third", x.one(5), 1);
+    }
+
+    private static void actsBehindUndo() {
+        ParishUnion x = new ParishUnion();
+        x.person(0, -1000, 1, -1, 9);
+        Due.act(x, "give 3 s=1;give 4 o;ward 2 o", 0);
+        x.image();
+        Due.act(x, "give 5 o;ward 3 o", 0);
+        x.undo();
+        Due.due("given by the first", x.offer(0, 0), 4);
+        Due.due("the ward by the first", x.offer(0, 1), 2);
+        Due.act(x, "give 6 s=0", 0);
+        Due.due("given by another one", x.offer(0, 0), 6);
+        Due.due("it has one clause", x.force(0, 8), 1);
+        Due.due("the ward by the first", x.force(0, 19), 0);
+        x.undo();
+        Due.due("given by the first", x.offer(0, 0), 4);
+        Due.due("two clauses", x.force(0, 8), 2);
     }
 
     private static void counts() {

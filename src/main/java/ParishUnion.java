@@ -1751,7 +1751,9 @@ public final class ParishUnion {
             System.arraycopy(other.from, 0, from, 0, MOST_ORDERS);
             System.arraycopy(other.to, 0, to, 0, MOST_ORDERS);
             System.arraycopy(other.week, 0, week, 0, MOST_ORDERS);
-            System.arraycopy(other.carried, 0, carried, 0, MOST_ORDERS);
+            for (int i = 0; i < MOST_ORDERS; i++) {
+                carried[i] = other.carried[i];
+            }
             count = other.count;
         }
 

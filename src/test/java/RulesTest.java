@@ -10,6 +10,8 @@ import java.util.Arrays;
 import java.util.List;
 import java.util.Set;
 import java.util.TreeSet;
+import java.util.regex.Matcher;
+import java.util.regex.Pattern;
 
 /** The face of the class, and what of the rules of LANGUAGE.md can be seen by a simple look. */
 public final class RulesTest {
@@ -103,7 +105,12 @@ public final class RulesTest {
         String text = Files.readString(Path.of(SOURCE));
         String code = text.replaceAll("(?s)/\\*.*?\\*/", "").replaceAll("//[^\n]*", "").replaceAll("\"[^\"\n]*\"", "\"\"");
         for (String b : BANNED) {
-            Due.due(b + " is not used", java.util.regex.Pattern.compile(b).matcher(code).find() ? 1 : 0, 0);
+            Due.due(b + " is not used", Pattern.compile(b).matcher(code).find() ? 1 : 0, 0);
+        }
+        Matcher flags = Pattern.compile("boolean\\[\\] (\\w+)").matcher(code);
+        while (flags.find()) {
+            String copied = "arraycopy\\([^;]*\\b" + flags.group(1) + "\\b";
+            Due.due(flags.group(1) + " are no numbers: not by arraycopy", Pattern.compile(copied).matcher(code).find() ? 1 : 0, 0);
         }
         int longest = 0;
         int begun = 0;
